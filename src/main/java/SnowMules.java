@@ -95,9 +95,6 @@ public final class SnowMules {
     private final Market market = new Market(world);
 
     public SnowMules() {
-        for (int i = 0; i < MOST_LAWS; i++) {
-            laws[i] = new Law();
-        }
     }
 
     public int node(int height, int snow, int cold) {
@@ -179,8 +176,11 @@ public final class SnowMules {
     }
 
     public int law() {
-        if (lawCount >= MOST_LAWS || laws[lawCount] == null) {
+        if (lawCount >= MOST_LAWS) {
             return NONE;
+        }
+        if (laws[lawCount] == null) {
+            laws[lawCount] = new Law();
         }
         int fault = reader.read(tape, tapeLength, laws[lawCount]);
         tapeLength = 0;
@@ -403,7 +403,7 @@ public final class SnowMules {
         if (by == null || !world.jars.has(jar) || !world.orders.has(order)) {
             return NONE;
         }
-        return search.leftFor(by, jar, order);
+        return search.leftFor(by, jar, order, false);
     }
 
     public int all(int law, int what) {
@@ -414,7 +414,7 @@ public final class SnowMules {
         market.open();
         for (int order = 0; order < world.orders.size; order++) {
             for (int jar = 0; jar < world.jars.size; jar++) {
-                if (search.leftFor(by, jar, order) >= 0) {
+                if (search.leftFor(by, jar, order, true) >= 0) {
                     market.offer(jar, order);
                 }
             }
@@ -811,7 +811,10 @@ public final class SnowMules {
     private static final class Law {
         static final int MOST_CLAUSES = 12;
         static final int MOST_PARTS = 60;
+        // A FACT has two VALUES and its SIGN at least.
         static final int MOST_FACTS = 20;
+        // No text of 400 bytes has more FACTS, ands, ors and nots.
+        static final int MOST_STEPS = 256;
 
         static final int PLUS = 0;
         static final int MINUS = 1;
@@ -844,7 +847,7 @@ public final class SnowMules {
         private final int[] factStops = new int[MOST_FACTS];
         private final int[] signs = new int[MOST_FACTS];
         private int steps;
-        private final int[] tests = new int[MOST_BYTES];
+        private final int[] tests = new int[MOST_STEPS];
 
         void clear() {
             chain = 0;
@@ -899,7 +902,7 @@ public final class SnowMules {
         }
 
         void addStep(int step) {
-            if (steps < MOST_BYTES) {
+            if (steps < MOST_STEPS) {
                 tests[steps] = step;
                 steps++;
             }
@@ -917,7 +920,7 @@ public final class SnowMules {
         /** The answers wait as bits, the newest lowest; a TEST lies too shallow to fill 64 of them. */
         private boolean holds(int start, int stop, int[] words) {
             long bits = 1;
-            for (int i = start; i >= 0 && i < stop && i < MOST_BYTES; i++) {
+            for (int i = start; i >= 0 && i < stop && i < MOST_STEPS; i++) {
                 int step = tests[i];
                 if (step == NOT) {
                     bits ^= 1;
@@ -1536,6 +1539,7 @@ public final class SnowMules {
     /** Looks for the WAY by which most is LEFT, and for how far NODES lie from one another. */
     private static final class Search {
         static final int FAR = 1000000;
+        static final int NEVER_LATE = 1000000;
 
         /** Below 0: no WAY has been found. */
         int left;
@@ -1546,6 +1550,7 @@ public final class SnowMules {
         private int barred;
         private int latest;
         private int waited;
+        private boolean anyWill;
         private final int[] far = new int[MOST_NODES];
         private final int[] row = new int[MOST_ROW];
         private final int[] bestRow = new int[MOST_ROW];
@@ -1560,7 +1565,8 @@ public final class SnowMules {
         void aim(int to, int withoutPass) {
             target = to;
             barred = withoutPass;
-            latest = Integer.MAX_VALUE;
+            anyWill = false;
+            latest = NEVER_LATE;
             left = -1;
             leaving = 0;
             waited = 0;
@@ -1580,13 +1586,14 @@ public final class SnowMules {
             }
         }
 
-        /** What a JAR has LEFT for an ORDER; NOT_SO: it doesn't serve it. */
-        int leftFor(Law law, int jar, int order) {
+        /** What a JAR has LEFT for an ORDER, or, if any WAY will do, a number from 0 on; NOT_SO: it doesn't serve it. */
+        int leftFor(Law law, int jar, int order, boolean any) {
             int start = world.nodeOf(jar);
             if (start == NONE) {
                 return NOT_SO;
             }
             aim(world.orders.get(order, ORDER_NODE), NONE);
+            anyWill = any;
             latest = world.orders.get(order, ORDER_UNTIL);
             int wish = world.orders.get(order, ORDER_DROPS);
             left = wish - 1;
@@ -1625,7 +1632,8 @@ public final class SnowMules {
         }
 
         private void keep(int depth) {
-            left = trip.drops;
+            // With the most that can be LEFT no other WAY is looked at.
+            left = anyWill ? MOST_DROPS : trip.drops;
             trip.needed = left + 1;
             leaving = waited;
             length = depth;
