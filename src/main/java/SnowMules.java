@@ -970,7 +970,7 @@ public final class SnowMules {
         }
     }
 
-    /** Reads a text as a LAW, from its first byte on, up to its first FAULT. */
+    /** Reads a text as a LAW: cuts it into tokens, then goes along them up to the first FAULT. */
     private static final class LawReader {
         static final int UNFIT = 0;
         static final int BAD_NUMBER = 1;
@@ -981,50 +981,71 @@ public final class SnowMules {
         static final int MOST_DEEP = 10;
         static final int MOST_DIGITS = 5;
         static final int MOST_CHAIN = 10;
-        static final int TEXT_END = -1;
 
-        // The sorts and the WORDS stand in the order of their numbers.
-        static final String SORTS = "melt rest share burst chain";
-        static final String WORDS = "month hour day height sun cold node drops felt salt gone";
+        // Each followed by a blank; the WORDS of a Scene and the sorts of a CLAUSE in the order of their numbers.
+        static final String WORDS =
+            "month hour day height sun cold node drops felt salt gone melt rest share burst chain if or and not ";
 
-        private int[] text = new int[0];
-        private int length;
-        private int place;
+        // A token is the byte itself, or one of these, or FIRST_WORD and a place in WORDS, or FIRST_NUMBER and a NUMBER.
+        static final int NOT_ABOVE_SIGN = 256;
+        static final int NOT_BELOW_SIGN = 257;
+        static final int TEXT_END = 258;
+        static final int LONG_NUMBER = 259;
+        static final int STRANGE_WORD = 260;
+        static final int FIRST_WORD = 300;
+        static final int FIRST_SORT = FIRST_WORD + Scene.WORDS;
+        static final int IF = FIRST_SORT + CHAIN + 1;
+        static final int OR = IF + 1;
+        static final int AND = IF + 2;
+        static final int NOT = IF + 3;
+        static final int FIRST_NUMBER = 1000;
+
+        private final int[] tokens = new int[MOST_BYTES + 1];
+        private final int[] places = new int[MOST_BYTES + 1];
+        private int tokenCount;
+        private int next;
         private int fault;
         private int parts;
         private boolean chained;
         private Law law = new Law();
 
         /** 0, or the FAULT; the LAW is written anew. */
-        int read(int[] bytes, int byteCount, Law into) {
-            text = bytes;
-            length = Math.min(byteCount, bytes.length);
-            place = 0;
+        int read(int[] text, int length, Law into) {
+            cut(text, Math.min(length, text.length));
+            next = 0;
             fault = 0;
             parts = 0;
             chained = false;
             law = into;
             law.clear();
-            readClauses();
+            for (int n = 0; n <= Law.MOST_CLAUSES && fault == 0; n++) {
+                if (readClause(n)) {
+                    if (token() == TEXT_END) {
+                        return 0;
+                    }
+                    take(';');
+                }
+            }
             return fault;
         }
 
-        private boolean refuse(int kind) {
-            fault = 1 + 8 * place + kind;
-            return false;
+        private void cut(int[] text, int length) {
+            tokenCount = 0;
+            int stop = 0;
+            for (int i = 0; i < length; i++) {
+                if (i >= stop && text[i] != ' ') {
+                    stop = stopOf(text, length, i);
+                    addToken(tokenOf(text, i, stop), i);
+                }
+            }
+            addToken(TEXT_END, length);
         }
 
-        private int here() {
-            return byteAt(place);
-        }
-
-        private int byteAt(int i) {
-            return i >= 0 && i < length && i < text.length ? text[i] : TEXT_END;
-        }
-
-        private void skipBlanks() {
-            while (place < length && here() == ' ') {
-                place++;
+        private void addToken(int token, int place) {
+            if (tokenCount < tokens.length && tokenCount < places.length) {
+                tokens[tokenCount] = token;
+                places[tokenCount] = place;
+                tokenCount++;
             }
         }
 
@@ -1036,77 +1057,96 @@ public final class SnowMules {
             return c >= '0' && c <= '9';
         }
 
-        private int wordStop() {
-            int stop = place;
-            while (stop < length && isLetter(byteAt(stop))) {
+        /** Where the token ends that begins at a place. */
+        private static int stopOf(int[] text, int length, int start) {
+            int first = text[start];
+            int stop = start + 1;
+            if (isLetter(first)) {
+                while (stop < length && isLetter(text[stop])) {
+                    stop++;
+                }
+            } else if (isDigit(first)) {
+                while (stop < length && isDigit(text[stop])) {
+                    stop++;
+                }
+            } else if ((first == '<' || first == '>') && stop < length && text[stop] == '=') {
                 stop++;
             }
             return stop;
         }
 
-        /** Which WORD of a list (blanks lie between them) stands here; NONE: none of them. */
-        private int wordHere(String list) {
-            int size = wordStop() - place;
+        private static int tokenOf(int[] text, int start, int stop) {
+            int first = text[start];
+            if (isLetter(first)) {
+                return wordToken(text, start, stop);
+            }
+            if (isDigit(first)) {
+                return numberToken(text, start, stop);
+            }
+            if (stop - start == 2) {
+                return first == '<' ? NOT_ABOVE_SIGN : NOT_BELOW_SIGN;
+            }
+            return first;
+        }
+
+        private static int wordToken(int[] text, int start, int stop) {
+            int token = FIRST_WORD;
+            int at = start;
+            boolean same = true;
+            for (int i = 0; i < WORDS.length(); i++) {
+                char c = WORDS.charAt(i);
+                if (c != ' ') {
+                    same = same && at < stop && text[at] == c;
+                    at++;
+                } else if (same && at == stop) {
+                    return token;
+                } else {
+                    token++;
+                    at = start;
+                    same = true;
+                }
+            }
+            return STRANGE_WORD;
+        }
+
+        private static int numberToken(int[] text, int start, int stop) {
+            if (stop - start > MOST_DIGITS) {
+                return LONG_NUMBER;
+            }
             int number = 0;
-            int start = 0;
-            for (int i = 0; i <= list.length(); i++) {
-                if (i == list.length() || list.charAt(i) == ' ') {
-                    if (i - start == size && isSame(list, start, size)) {
-                        return number;
-                    }
-                    number++;
-                    start = i + 1;
-                }
+            for (int i = start; i < stop; i++) {
+                number = number * 10 + (text[i] - '0');
             }
-            return NONE;
+            return FIRST_NUMBER + number;
         }
 
-        private boolean isSame(String list, int start, int size) {
-            for (int i = 0; i < size; i++) {
-                int at = start + i;
-                if (at < 0 || at >= list.length() || list.charAt(at) != byteAt(place + i)) {
-                    return false;
-                }
+        private int token() {
+            return next >= 0 && next < tokenCount && next < tokens.length ? tokens[next] : TEXT_END;
+        }
+
+        private boolean refuse(int kind) {
+            int place = next >= 0 && next < places.length ? places[next] : 0;
+            fault = 1 + 8 * place + kind;
+            return false;
+        }
+
+        private boolean take(int wanted) {
+            if (token() != wanted) {
+                return refuse(UNFIT);
             }
+            next++;
             return true;
-        }
-
-        private boolean passWord(String word) {
-            skipBlanks();
-            if (wordHere(word) == NONE) {
-                return false;
-            }
-            place = wordStop();
-            return true;
-        }
-
-        private boolean readClauses() {
-            for (int n = 0; n <= Law.MOST_CLAUSES; n++) {
-                if (!readClause(n)) {
-                    return false;
-                }
-                skipBlanks();
-                if (here() == TEXT_END) {
-                    return true;
-                }
-                if (here() != ';') {
-                    return refuse(UNFIT);
-                }
-                place++;
-            }
-            return refuse(TOO_MANY_CLAUSES);
         }
 
         private boolean readClause(int number) {
-            skipBlanks();
-            int sort = wordHere(SORTS);
-            if (sort == NONE) {
+            int sort = token() - FIRST_SORT;
+            if (sort < MELT || sort > CHAIN) {
                 return refuse(UNFIT);
             }
             if (number >= Law.MOST_CLAUSES || sort == CHAIN && chained) {
                 return refuse(TOO_MANY_CLAUSES);
             }
-            place = wordStop();
+            next++;
             if (sort == CHAIN) {
                 return readChain();
             }
@@ -1115,9 +1155,10 @@ public final class SnowMules {
                 return false;
             }
             law.endSum();
-            if (!passWord("if")) {
+            if (token() != IF) {
                 return true;
             }
+            next++;
             if (!readTest(0)) {
                 return false;
             }
@@ -1127,38 +1168,16 @@ public final class SnowMules {
 
         private boolean readChain() {
             chained = true;
-            skipBlanks();
-            if (!isDigit(here())) {
+            if (token() != LONG_NUMBER && token() < FIRST_NUMBER) {
                 return refuse(UNFIT);
             }
-            int number = numberHere();
+            int number = token() - FIRST_NUMBER;
             if (number < 0 || number > MOST_CHAIN) {
                 return refuse(BAD_NUMBER);
             }
             law.chain = number;
-            place = numberStop();
+            next++;
             return true;
-        }
-
-        private int numberStop() {
-            int stop = place;
-            while (stop < length && isDigit(byteAt(stop))) {
-                stop++;
-            }
-            return stop;
-        }
-
-        /** The NUMBER whose first digit stands here; NONE: it has too many. */
-        private int numberHere() {
-            int stop = numberStop();
-            if (stop - place > MOST_DIGITS) {
-                return NONE;
-            }
-            int number = 0;
-            for (int i = place; i < stop; i++) {
-                number = number * 10 + (byteAt(i) - '0');
-            }
-            return number;
         }
 
         private boolean readSum() {
@@ -1167,18 +1186,17 @@ public final class SnowMules {
                 if (!readValue(join)) {
                     return false;
                 }
-                skipBlanks();
-                join = joinHere();
+                join = joinOf(token());
                 if (join == NONE) {
                     return true;
                 }
-                place++;
+                next++;
             }
             return refuse(TOO_MANY);
         }
 
-        private int joinHere() {
-            switch (here()) {
+        private static int joinOf(int token) {
+            switch (token) {
                 case '+': return Law.PLUS;
                 case '-': return Law.MINUS;
                 case '*': return Law.TIMES;
@@ -1188,18 +1206,20 @@ public final class SnowMules {
         }
 
         private boolean readValue(int join) {
-            skipBlanks();
-            boolean digits = isDigit(here());
-            int found = digits ? numberHere() : wordHere(WORDS);
-            if (found == NONE) {
-                return refuse(digits ? BAD_NUMBER : UNFIT);
+            int token = token();
+            boolean word = token >= FIRST_WORD && token < FIRST_SORT;
+            if (token == LONG_NUMBER) {
+                return refuse(BAD_NUMBER);
+            }
+            if (!word && token < FIRST_NUMBER) {
+                return refuse(UNFIT);
             }
             if (parts >= Law.MOST_PARTS) {
                 return refuse(TOO_MANY);
             }
             parts++;
-            law.addValue(join, digits ? found : -1 - found);
-            place = digits ? numberStop() : wordStop();
+            law.addValue(join, word ? -1 - (token - FIRST_WORD) : token - FIRST_NUMBER);
+            next++;
             return true;
         }
 
@@ -1211,9 +1231,10 @@ public final class SnowMules {
                 if (n > 0) {
                     law.addStep(Law.OR);
                 }
-                if (!passWord("or")) {
+                if (token() != OR) {
                     return true;
                 }
+                next++;
             }
             return refuse(TOO_MANY);
         }
@@ -1226,40 +1247,29 @@ public final class SnowMules {
                 if (n > 0) {
                     law.addStep(Law.AND);
                 }
-                if (!passWord("and")) {
+                if (token() != AND) {
                     return true;
                 }
+                next++;
             }
             return refuse(TOO_MANY);
         }
 
         private boolean readFact(int depth) {
-            skipBlanks();
-            boolean bracket = here() == '[';
-            boolean not = wordHere("not") != NONE;
-            if (!bracket && !not) {
+            boolean not = token() == NOT;
+            if (!not && token() != '[') {
                 return readComparison();
             }
             if (depth >= MOST_DEEP) {
                 return refuse(TOO_DEEP);
             }
-            if (not) {
-                place = wordStop();
-                boolean read = readFact(depth + 1);
-                law.addStep(Law.NOT);
-                return read;
+            next++;
+            if (!not) {
+                return readTest(depth + 1) && take(']');
             }
-            place++;
-            return readTest(depth + 1) && passBracket();
-        }
-
-        private boolean passBracket() {
-            skipBlanks();
-            if (here() != ']') {
-                return refuse(UNFIT);
-            }
-            place++;
-            return true;
+            boolean read = readFact(depth + 1);
+            law.addStep(Law.NOT);
+            return read;
         }
 
         private boolean readComparison() {
@@ -1268,7 +1278,7 @@ public final class SnowMules {
                 return false;
             }
             int middle = law.values;
-            int sign = signHere();
+            int sign = signOf(token());
             if (sign == NONE) {
                 return refuse(UNFIT);
             }
@@ -1276,7 +1286,7 @@ public final class SnowMules {
                 return refuse(TOO_MANY);
             }
             parts++;
-            place += sign == Law.NOT_ABOVE || sign == Law.NOT_BELOW ? 2 : 1;
+            next++;
             if (!readSum()) {
                 return false;
             }
@@ -1284,12 +1294,13 @@ public final class SnowMules {
             return true;
         }
 
-        private int signHere() {
-            boolean same = byteAt(place + 1) == '=';
-            switch (here()) {
-                case '<': return same ? Law.NOT_ABOVE : Law.BELOW;
-                case '>': return same ? Law.NOT_BELOW : Law.ABOVE;
+        private static int signOf(int token) {
+            switch (token) {
+                case '<': return Law.BELOW;
+                case NOT_ABOVE_SIGN: return Law.NOT_ABOVE;
                 case '=': return Law.SAME;
+                case NOT_BELOW_SIGN: return Law.NOT_BELOW;
+                case '>': return Law.ABOVE;
                 default: return NONE;
             }
         }

@@ -10,7 +10,7 @@ import java.util.Random;
  * The second program was written from the document alone: it lists all WAYS, all rows and all ways to wait.
  */
 public final class OracleTest {
-    static final int RUNS = 400;
+    static final int RUNS = 250;
 
     public static void main(String[] args) {
         int runs = args.length > 0 ? Integer.parseInt(args[0]) : RUNS;
