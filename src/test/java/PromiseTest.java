@@ -38,6 +38,8 @@ public final class PromiseTest {
         aheads();
         counts();
         images();
+        callsBehindCalls();
+        hoursOfShares();
         System.out.println(asked + " answers asked, " + wrong + " not as due");
         if (wrong != 0) {
             System.exit(1);
@@ -241,6 +243,11 @@ public final class PromiseTest {
         fault("melt x", 5, 0);
         fault("melts 1", 0, 0);
         fault("melt (1)", 5, 0);
+        fault("melt melt", 5, 0);
+        fault("melt 1+if", 7, 0);
+        fault("melt not 1", 5, 0);
+        fault("melt z", 5, 0);
+        fault("melz 1", 0, 0);
         fault("Melt 1", 0, 0);
         fault("5", 0, 0);
         fault("; melt 1", 0, 0);
@@ -660,8 +667,14 @@ public final class PromiseTest {
         due("lay", m.lay(0), 1);
         due("lay back", m.lay(0), -1);
         due("lay", m.lay(1), 2);
-        due("lay to a node it has", m.lay(8), -1);
-        due("lay no pass", m.lay(9), -1);
+        due("lay to the node it is from", m.lay(8), -1);
+        m.pass(3, 1, 1, 0, 0);
+        due("lay", m.lay(2), 3);
+        due("lay to a node it has", m.lay(9), -1);
+        m.from(0);
+        m.lay(0);
+        m.lay(1);
+        due("lay no pass", m.lay(10), -1);
         due("lay no pass", m.lay(-1), -1);
         for (int i = 2; i < 6; i++) {
             due("lay", m.lay(i), i + 1);
@@ -744,9 +757,14 @@ public final class PromiseTest {
         due("the first hour of the night", m.best(3, 0, 3, 8, 1000, 0, 0, 1), 12);
         due("all is left then", m.best(3, 0, 3, 8, 1000, 0, 0, 0), 1000);
         due("at once", m.best(3, 0, 3, 20, 1000, 0, 0, 1), 0);
+        law(m, "melt 10 if day < 2 or hour > 0 and hour < 20");
+        // Leaving at hour 45 one comes into day 2, where its first hour melts nothing: 24 behind 21, 23 behind 22.
+        due("24 hours and no more", m.best(4, 0, 3, 21, 1000, 0, 0, 0), 960);
+        due("the last of them", m.best(4, 0, 3, 22, 1000, 0, 0, 0), 970);
+        due("the last of them", m.best(4, 0, 3, 22, 1000, 0, 0, 1), 23);
         law(m, "melt 1000");
-        due("nothing left is a way, too", m.best(4, 0, 3, 20, 1000, 0, 0, 0), 0);
-        due("nothing left: the first way", m.best(4, 0, 3, 20, 1000, 0, 0, 2), 2);
+        due("nothing left is a way, too", m.best(5, 0, 3, 20, 1000, 0, 0, 0), 0);
+        due("nothing left: the first way", m.best(5, 0, 3, 20, 1000, 0, 0, 2), 2);
         SnowMules row = new SnowMules();
         for (int i = 0; i < 9; i++) {
             row.node(0, 0, 0);
@@ -981,6 +999,22 @@ public final class PromiseTest {
         due("feast", m.feast(1, 0, 1), 8);
         due("9th feast", m.feast(1, 0, 1), -1);
         due("feasts", m.count(7), 8);
+        SnowMules edge = twoNodes();
+        law(edge, "melt 0");
+        edge.tick(0, 36);
+        edge.feast(0, 61, 5);
+        due("1440 hours from now on is behind them", edge.enough(0, 0, 0), 1);
+        edge.feast(1, 2, 99900);
+        due("the last of the hundreds", edge.least(0, 1), 99900);
+        edge.feast(1, 3, 1);
+        due("one more is too much", edge.least(0, 1), -2);
+        SnowMules days = twoNodes();
+        law(days, "rest drops / 100");
+        days.feast(0, 1, 50);
+        days.feast(0, 0, 1000);
+        // Hundredths, downwards, 12 times: of 1177 are 1049 there at the first noon, of 1178 1050; of fewer than 100 none go.
+        due("feasts one behind the other", days.enough(0, 0, 1178), 1);
+        due("feasts one behind the other", days.enough(0, 0, 1177), 0);
         SnowMules odd = twoNodes();
         law(odd, "rest 500 if drops >= 300 and drops < 450 and hour = 3");
         odd.feast(0, 0, 250);
@@ -1092,6 +1126,75 @@ public final class PromiseTest {
         due("count", m.count(11), -1);
         due("count", m.count(-1), -1);
         due("count", m.count(MIN), -1);
+    }
+
+    /** What one call looks at must not be what another one left behind. */
+    private static void callsBehindCalls() {
+        SnowMules m = diamond();
+        law(m, "melt 1; chain 7; burst 1000 if 1=1 and 2=2; rest");
+        due("a fault is no law", m.tick(0, 1), -1);
+        due("a fault is no law", m.best(0, 0, 3, 0, 9, 0, 0, 0), -1);
+        due("a law behind a fault", law(m, "chain 0; melt 2 if 1=1"), 0);
+        m.jar(0, 0, 0, 0, 0);
+        m.jar(3, 0, 0, 0, 1);
+        m.fill(0, 900);
+        due("its melt", m.melt(0, 0), 2);
+        m.from(0);
+        m.lay(0);
+        due("warmer", m.warmer(0, 0, 900, 0, 0, 100), 398);
+        due("tried behind warmer", m.tried(0, 0, 900, 0, 0, 0), 896);
+        due("soonest", m.soonest(4, 0), -2);
+        due("nearest behind soonest", m.nearest(0, 1), 1);
+        m.order(3, 99, 800, 5);
+        due("all", m.all(0, 0), 5);
+        m.fill(0, 5);
+        due("all behind all", m.all(0, 0), 0);
+        due("all behind all", m.all(0, 1), 16);
+        m.image(2);
+        m.lay(2);
+        m.back(2);
+        due("the way of the image", m.count(8), 1);
+        due("the way of the image", m.tried(0, 0, 900, 0, 0, 1), 2);
+        m.from(1);
+        m.lay(2);
+        m.image(3);
+        m.from(0);
+        m.lay(4);
+        m.back(3);
+        due("the passes of the image", m.tried(0, 0, 900, 0, 0, 1), 2);
+        m.leave(0, 4);
+        m.tick(0, 9);
+        due("no burst, no chain is left of the fault", m.of(0, 1), 3);
+    }
+
+    /** SHARE, burst and GUESSES ask for the hour and the drops as they are then. */
+    private static void hoursOfShares() {
+        SnowMules m = mountain(468);
+        law(m, "melt 10; share 50 if hour = 5 and day = 1; burst 989 if drops = 480; burst 988");
+        m.jar(0, 0, 0, 0, 0);
+        m.from(0);
+        m.lay(0);
+        due("share of the hour it comes", m.tried(0, 25, 1000, 0, 0, 0), 480);
+        due("no share in another hour", m.tried(0, 24, 1000, 0, 0, 0), 960);
+        law(m, "melt 10");
+        m.tick(1, 25);
+        m.seed(12345);
+        due("468 is not below 468, 988 is below 989", m.nights(0, 0, 1000, 1, 2), 0);
+        due("it burst with the drops behind the share", m.nights(0, 0, 1000, 1, 0), 0);
+        due("988 is not below 988", m.nights(0, 0, 997, 1, 0), 1);
+        SnowMules d = diamond();
+        law(d, "melt hour * 10 + node / 12 * 5");
+        d.from(0);
+        d.lay(0);
+        d.lay(2);
+        // However one waits, the hours 3 to 8 melt 10 each of their number; four of them are on passes.
+        due("all ways in the same hours", d.guess(0, 3, 1000, 0, 0, 2, 1000 - 330 - 20, 0, 0), 3);
+        due("the most ahead of the first", d.guess(0, 3, 1000, 0, 0, 2, 650, 0, 2), 2);
+        due("the most ahead of the second", d.guess(0, 3, 1000, 0, 0, 2, 650, 1, 2), 2);
+        due("the least ahead of the second", d.guess(0, 3, 1000, 0, 0, 2, 650, 1, 1), 0);
+        law(d, "melt 7 if node = 1 and hour = 6; melt 1");
+        due("just there at that hour", d.guess(1, 3, 1000, 0, 0, 2, 1000 - 5 - 7, 0, 0), 2);
+        due("and waited at 0 so long at most", d.guess(1, 3, 1000, 0, 0, 2, 988, 0, 2), 1);
     }
 
     // Promises 36 and 37
