@@ -1337,6 +1337,10 @@ public final class SnowMules {
         }
 
         int meltOf(World world, Law law, int jar) {
+            int drops = world.jars.get(jar, JAR_DROPS);
+            if (drops == 0) {
+                return 0;
+            }
             int where = world.jars.get(jar, JAR_WHERE);
             if (where == ON_A_PASS) {
                 scene.setPass(world, world.jars.get(jar, JAR_PASS), world.jars.get(jar, JAR_TO));
@@ -1346,7 +1350,7 @@ public final class SnowMules {
             }
             scene.setHour(world, world.now);
             setLoadOf(world, jar);
-            return held(law.sumOf(MELT, scene.words), world.jars.get(jar, JAR_DROPS));
+            return held(law.sumOf(MELT, scene.words), drops);
         }
 
         private void setLoadOf(World world, int jar) {
