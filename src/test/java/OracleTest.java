@@ -7,7 +7,8 @@ import java.util.Random;
 
 /**
  * Drives SnowMules and a second, slow program side by side with the same calls, drawn from fixed seeds.
- * The second program was written from the document alone: it lists all WAYS, all rows and all ways to wait.
+ * The second program lists all WAYS, all rows and all ways to wait. It reads the document as SnowMules does (the same
+ * hand wrote both), so it finds slips, not places that both read wrongly.
  */
 public final class OracleTest {
     static final int RUNS = 250;
