@@ -7,6 +7,8 @@ public final class EdgeLawTest {
 
     public static void main(String[] args) {
         lawNumbers();
+        lawsBehindFaults();
+        bytesOfTexts();
         lengths();
         clauses();
         chainNumbers();
@@ -105,9 +107,88 @@ public final class EdgeLawTest {
         Edges.due("a fault takes no number", Edges.law(m, "melt"), -2 - 33);
         Edges.due("laws", m.count(3), 2);
         Edges.due("bytes", m.count(10), 0);
+        Edges.due("it is no law", m.tick(2, 1), NONE);
         Edges.due("the next number", Edges.law(m, "melt 4"), 2);
         Edges.due("bytes", m.count(10), 0);
         Edges.due("an empty tape", m.law(), -3);
+        SnowMules half = pair(0, 0, 1, 0);
+        // The fault is the last byte: all ahead of it has been read, and none of it may stay.
+        fault("melt 9;rest 9;share 9;burst 1000;chain 9;melt 1 if 1<2 and not [2<3];", 69, 0);
+        Edges.law(half, "melt 9;rest 9;share 9;burst 1000;chain 9;melt 1 if 1<2 and not [2<3];");
+        Edges.due("a law behind a fault", Edges.law(half, "melt 5 if 1>2;melt 4 if not 1>2"), 0);
+        half.jar(1, 0, 0, 0, 1);
+        half.store(0, 100);
+        half.leave(0, 0);
+        half.tick(0, 1);
+        Edges.due("it has its own melt, and no share", half.of(0, 0), 89996);
+        Edges.due("no burst", half.of(0, 1), 1);
+        Edges.due("no rest", half.at(0, 3), 100);
+        Edges.law(half, "burst 1000;chain 9;rest");
+        Edges.law(half, "burst 1000");
+        half.jar(0, 0, 0, 0, 0);
+        half.leave(2, 0);
+        half.tick(1, 1);
+        Edges.due("it burst", half.of(2, 1), 13);
+        Edges.due("no chain", half.of(1, 1), 1);
+    }
+
+    private static void lawsBehindFaults() {
+        Edges.says("-2 - its FAULT: what was read ahead of a FAULT is no part of a LAW");
+        SnowMules m = pair(0, 0, 1, 0);
+        String sixty = "melt 1" + times("+1", 59);
+        String facts = "melt 1 if 1<2" + times(" and not not not not[1<2]", 13);
+        for (int i = 0; i < 8; i++) {
+            Edges.due("sixty values and one more", Edges.law(m, sixty + "+1"), -2 - 1 - 8 * 125 - 3);
+            Edges.due("facts and a fault", Edges.law(m, facts + " x"), -2 - 1 - 8 * (facts.length() + 1));
+            Edges.due("clauses and a fault", Edges.law(m, times("melt 3 if 1<2;", 12)), -2 - 1 - 8 * 168);
+        }
+        Edges.due("facts", Edges.law(m, facts + " and 1>2;melt 7 if 1>2;melt 8 if 1<2;melt 9"), 0);
+        Edges.due("some hold, some don't", m.melt(0, 0), 8);
+        Edges.law(m, sixty + "+1");
+        Edges.due("sixty values", Edges.law(m, sixty), 1);
+        Edges.due("all of them", m.melt(1, 0), 60);
+        Edges.due("sixty values again", Edges.law(m, sixty), 2);
+        Edges.due("all of them again", m.melt(2, 0), 60);
+        Edges.law(m, "melt 2 if 1>2;melt 3 if 1>2;");
+        Edges.due("clauses without a test", Edges.law(m, "rest 5;melt 4"), 3);
+        Edges.due("none is asked", m.melt(3, 0), 4);
+        Edges.law(m, "melt 2 if 1>2;melt 3 if 1>2;");
+        Edges.due("twelve clauses", Edges.law(m, times("melt 5 if 1>2;", 11) + "melt 6"), 4);
+        Edges.due("the twelfth", m.melt(4, 0), 6);
+    }
+
+    private static void bytesOfTexts() {
+        Edges.says("0 a byte or WORD that can't stand there: each byte from 0 to 255");
+        for (int b = 0; b < 256; b++) {
+            String sign = String.valueOf((char) b);
+            boolean join = "+-*/".indexOf(b) >= 0;
+            boolean digit = b >= '0' && b <= '9';
+            if (b == ' ') {
+                good(sign + "melt 1");
+            } else {
+                fault(sign + " melt 1", 0, 0);
+            }
+            if (b == ' ' || digit) {
+                good("melt 1" + sign);
+            } else {
+                fault("melt 1" + sign, join || b == ';' ? 7 : 6, 0);
+            }
+            if ("<=>".indexOf(b) >= 0) {
+                good("melt 1 if 1" + sign + "2");
+            } else {
+                fault("melt 1 if 1" + sign + "2", join || digit ? 13 : b == ' ' ? 12 : 11, 0);
+            }
+            if (join) {
+                good("melt 1 " + sign + " 2");
+            } else {
+                fault("melt 1 " + sign + " 2", b == ' ' ? 9 : b == ';' ? 9 : 7, 0);
+            }
+            if (digit) {
+                good("melt " + sign);
+            } else {
+                fault("melt " + sign, b == ' ' ? 6 : 5, 0);
+            }
+        }
     }
 
     private static void lengths() {
@@ -119,10 +200,27 @@ public final class EdgeLawTest {
         fault("melt" + times(" ", 395) + "x", 399, 0);
         fault("melt" + times(" ", 396), 400, 0);
         fault(times(" ", 400), 400, 0);
+        good("melt" + times(" ", 392) + "hour");
+        fault("melt" + times(" ", 393) + "hou", 397, 0);
+        fault("melt 1 if 1" + times(" ", 388) + "<", 400, 0);
+        fault("melt 1 if 1" + times(" ", 387) + ">=", 400, 0);
+        fault("melt" + times(" ", 390) + "123456", 394, 1);
+        good("melt" + times(" ", 391) + "12345");
         SnowMules whole = new SnowMules();
         Edges.feed(whole, times(" ", 394) + "melt 1");
         Edges.due("400 bytes", whole.count(10), 400);
         Edges.due("are a law", whole.law(), 0);
+        String[][] cuts = {{"melt hour", "8", "5", "0"}, {"melt 1 if 1<=2", "12", "12", "0"}, {"melt 1;rest 1", "12", "12", "0"}, {"melt 1 if [1<2]", "14", "14", "0"}};
+        for (String[] c : cuts) {
+            SnowMules cut = new SnowMules();
+            Edges.feed(cut, c[0]);
+            cut.end(Integer.parseInt(c[1]));
+            Edges.due("'" + c[0] + "' cut at " + c[1], cut.law(), -3 - 8 * Integer.parseInt(c[2]));
+        }
+        SnowMules cut = new SnowMules();
+        Edges.feed(cut, "melt 123456");
+        cut.end(10);
+        Edges.due("a number cut to five digits", cut.law(), 0);
     }
 
     private static void clauses() {
@@ -280,6 +378,14 @@ public final class EdgeLawTest {
         fault("melt 1 if nott 1=1", 10, 0);
         fault("Melt 1", 0, 0);
         fault("mElt 1", 0, 0);
+        for (String sign : new String[] {"a", "z"}) {
+            fault("melt" + sign + " 1", 0, 0);
+            fault("melt hour" + sign, 5, 0);
+            fault("melt " + sign, 5, 0);
+            fault("melt 1 if" + sign + " 1=1", 7, 0);
+        }
+        fault("melt`1", 4, 0);
+        fault("melt{1", 4, 0);
         fault("melt `", 5, 0);
         fault("melt {", 5, 0);
     }
@@ -514,6 +620,7 @@ public final class EdgeLawTest {
         Edges.due("one less than all", dropsAfter("melt 99", 100), 1);
         Edges.due("all", dropsAfter("melt 100", 100), 0);
         Edges.due("more than all", dropsAfter("melt 101", 100), 0);
+        Edges.due("the last one", dropsAfter("melt 1", 1), 0);
         Edges.due("of none", dropsAfter("melt 1", 0), 0);
         Edges.due("all of the most", dropsAfter("melt 99999", 99999), 0);
         Edges.due("by drops", dropsAfter("melt drops", 99999), 0);
@@ -573,6 +680,7 @@ public final class EdgeLawTest {
         Edges.due("one less than all", storeAfter("rest 99", 100), 1);
         Edges.due("all", storeAfter("rest 100", 100), 0);
         Edges.due("more than all", storeAfter("rest 101", 100), 0);
+        Edges.due("the last one", storeAfter("rest 1", 1), 0);
         Edges.due("of none", storeAfter("rest 1", 0), 0);
         Edges.due("the most", storeAfter("rest drops", 999999), 0);
         Edges.due("of the most", storeAfter("rest 1", 999999), 999998);
@@ -778,6 +886,24 @@ public final class EdgeLawTest {
         again.leave(2, 0);
         again.tick(0, 2);
         Edges.due("one that is gone is passed over", again.of(3, 1), 13);
+        SnowMules lower = pair(0, 0, 1, 0);
+        Edges.law(lower, "burst 1000 if felt=9;chain 5");
+        lower.leave(0, 0);
+        lower.tick(0, 1);
+        lower.jar(0, 9, 0, 0, 15);
+        lower.leave(1, 0);
+        lower.tick(0, 1);
+        Edges.due("place 0 is not above 15", lower.of(0, 1), 1);
+        SnowMules first = new SnowMules();
+        first.node(0, 0, 0);
+        first.node(0, 0, 0);
+        first.pass(0, 1, 1, 0, 0);
+        Edges.law(first, "burst 1000 if felt=9;chain 5");
+        first.jar(1, 4, 0, 7, 1);
+        first.jar(0, 9, 0, 7, 0);
+        first.leave(1, 0);
+        first.tick(0, 1);
+        Edges.due("jar 0 behind jar 1", first.of(0, 1), 13);
         // JAR 1 comes in the same hour, but behind JAR 0: it bursts on the PASS, and neither draws nor shares.
         SnowMules same = pair(0, 0, 1, 0);
         Edges.law(same, "burst 1000 if felt=3;chain 5;share 10");
@@ -829,9 +955,15 @@ public final class EdgeLawTest {
             parts.tick(0, 1);
         }
         Edges.same("24 hours at once", whole, parts);
-        Edges.refused("beyond the last hour", EdgeLawTest::late, m -> m.tick(0, 2), NONE);
-        Edges.refused("far beyond it", EdgeLawTest::late, m -> m.tick(0, 240), NONE);
-        Edges.due("up to the last hour", late().tick(0, 1), 99999);
+        SnowMules late = late();
+        for (int n : new int[] {2, 3, 240}) {
+            Edges.due("beyond the last hour by " + n, late.tick(0, n), NONE);
+            Edges.due("NOW behind it", late.count(4), 99998);
+            Edges.due("its drops", late.of(0, 0), 90000);
+            Edges.due("its store", late.at(0, 3), 50);
+        }
+        Edges.due("up to the last hour", late.tick(0, 1), 99999);
+        Edges.due("its drops then", late.of(0, 0), 89997);
     }
 
     private static SnowMules late() {

@@ -9,6 +9,7 @@ public final class EdgeWayTest {
         laying();
         froms();
         trying();
+        tryingByHours();
         bests();
         bestHours();
         bestTies();
@@ -170,6 +171,41 @@ public final class EdgeWayTest {
         Edges.due("hour 720", hours.tried(1, 720, 90000, 0, 0, 0), 90000 - 3000 - 1);
     }
 
+    private static int leftBy(String law, int hours, int hour, int drops) {
+        SnowMules m = new SnowMules();
+        m.node(400, 0, 7);
+        m.node(0, 0, 9);
+        m.pass(0, 1, hours, 5, 0);
+        Edges.law(m, law);
+        m.from(0);
+        m.lay(0);
+        return m.tried(0, hour, drops, 3, 2, 0);
+    }
+
+    private static void tryingByHours() {
+        Edges.says("TRIED: MELT as above");
+        Edges.due("the last one", leftBy("melt 1", 1, 0, 1), 0);
+        Edges.due("below 0", leftBy("melt 0-1", 1, 0, 1), 1);
+        Edges.due("more than all", leftBy("melt 101", 1, 0, 100), 0);
+        Edges.due("heights", leftBy("melt height", 3, 0, 1000), 1000 - 400 - 266 - 133);
+        Edges.due("hours gone", leftBy("melt gone", 24, 0, 1000), 1000 - 276);
+        Edges.due("sun, cold, node", leftBy("melt sun*100+cold*10+node", 1, 0, 1000), 1000 - 512);
+        Edges.due("felt, salt, drops", leftBy("melt felt*100+salt*10+drops/1000", 1, 0, 1000), 1000 - 321);
+        Edges.due("drops as they are in each hour", leftBy("melt drops/2", 3, 0, 1000), 125);
+        Edges.says("TRIED: SHARES as above (of the hour that begins then)");
+        Edges.due("a hundredth of 99", leftBy("share 1", 1, 0, 99), 99);
+        Edges.due("a hundredth of 100", leftBy("share 1", 1, 0, 100), 99);
+        Edges.due("all of one", leftBy("share 100", 1, 0, 1), 0);
+        Edges.due("all of all", leftBy("share 100", 1, 0, 99999), 0);
+        Edges.due("held to 100", leftBy("share 101", 1, 0, 1000), 0);
+        Edges.due("99 of 100", leftBy("share 99", 1, 0, 1000), 10);
+        Edges.due("held to 0", leftBy("share 0-1", 1, 0, 1000), 1000);
+        Edges.due("the hour that begins", leftBy("share 50 if hour=0 and day=1", 1, 23, 1000), 500);
+        Edges.due("not the hour that ended", leftBy("share 50 if hour=23", 1, 23, 1000), 1000);
+        Edges.due("drops behind melt", leftBy("melt 1;share 50 if drops=998", 2, 0, 1000), 499);
+        Edges.due("words of the node", leftBy("share 50 if height+sun+gone=0 and cold=9 and node=1 and felt=3 and salt=2", 1, 0, 1000), 500);
+    }
+
     // Promise 21
     private static void bests() {
         Edges.says("BEST (hour 0 to 99999) what 0: LEFT, 1: the hour, 2: PASSES of the WAY, 3 to 8: its PASSES; NONE without these.");
@@ -217,6 +253,23 @@ public final class EdgeWayTest {
         Edges.law(ring, "melt 5 if node=12;share 1 if node=1");
         Edges.due("straight", ring.best(1, 0, 2, 0, 1000, 0, 0, 2), 1);
         Edges.due("by its pass", ring.best(1, 0, 2, 0, 1000, 0, 0, 3), 2);
+        SnowMules spur = row(2);
+        spur.node(0, 0, 0);
+        spur.pass(0, 2, 1, 0, 0);
+        Edges.law(spur, "melt 0");
+        // There and back by PASS 0 would come ahead by its number.
+        Edges.due("not there and back", spur.best(1, 0, 2, 0, 1000, 0, 0, 2), 1);
+        Edges.due("not there and back", spur.best(1, 0, 2, 0, 1000, 0, 0, 3), 1);
+        Edges.due("not there and back from another", spur.best(1, 1, 2, 0, 1000, 0, 0, 2), 2);
+        spur.node(0, 0, 0);
+        spur.pass(3, 1, 1, 0, 0);
+        Edges.due("not there and back from another", spur.best(1, 1, 3, 0, 1000, 0, 0, 3), 2);
+        SnowMules slow = row(1);
+        slow.node(0, 0, 0);
+        slow.node(0, 0, 0);
+        slow.pass(0, 1, 24, 0, 0);
+        slow.pass(1, 2, 24, 0, 0);
+        Edges.due("two passes of many hours", slow.best(0, 0, 2, 0, 1000, 0, 0, 0), 952);
     }
 
     private static int bestHour(int hour, String law, int what) {
@@ -375,6 +428,8 @@ public final class EdgeWayTest {
         Edges.due("0", warmer("melt 1", 20000, 19999), 0);
         Edges.due("not with 0", warmer("melt 1", 20000, 20000), -2);
         Edges.due("the most", warmer("melt 0", 99999, 99999), 0);
+        Edges.due("one of one", warmer("melt 0", 1, 1), 0);
+        Edges.due("none of one", warmer("melt 0", 1, 0), 9999);
         Edges.due("none of none", warmer("melt 5", 0, 0), 9999);
         Edges.due("one of none", warmer("melt 0", 0, 1), -2);
         Edges.due("all but one", warmer("melt 0", 5000, 1), 4999);
@@ -482,6 +537,16 @@ public final class EdgeWayTest {
         Edges.due("40: the most ahead of 2", cold.guess(0, 0, 1000, 0, 0, 2, 960, 2, 2), 1);
         Edges.due("60", cold.guess(0, 0, 1000, 0, 0, 2, 940, 2, 1), 2);
         Edges.due("70: at the last node none waits", cold.guess(0, 0, 1000, 0, 0, 2, 930, 0, 0), 0);
+        Edges.law(cold, "melt 10 if node=1 and hour=5;melt 1");
+        // Leaving at 3 one stands at 1 in hour 5 behind two hours there, or behind one at 0 and one there: two of six ways.
+        Edges.due("an hour that melts more: not then", cold.guess(1, 3, 1000, 0, 0, 2, 1000 - 5, 0, 0), 4);
+        Edges.due("an hour that melts more", cold.guess(1, 3, 1000, 0, 0, 2, 1000 - 14, 0, 0), 2);
+        Edges.due("an hour that melts more: the least ahead of 1", cold.guess(1, 3, 1000, 0, 0, 2, 1000 - 14, 1, 1), 1);
+        Edges.due("an hour that melts more: the most ahead of 1", cold.guess(1, 3, 1000, 0, 0, 2, 1000 - 14, 1, 2), 2);
+        Edges.due("an hour that melts more: the most ahead of 0", cold.guess(1, 3, 1000, 0, 0, 2, 1000 - 14, 0, 2), 1);
+        Edges.due("an hour that melts more: the most ahead of 2", cold.guess(1, 3, 1000, 0, 0, 2, 1000 - 14, 2, 2), 0);
+        Edges.due("all melts, to the last one", cold.guess(1, 3, 5, 0, 0, 2, 0, 0, 0), 6);
+        Edges.due("all but one", cold.guess(1, 3, 6, 0, 0, 2, 1, 0, 0), 4);
     }
 
     private static SnowMules ordered(int n) {
@@ -662,6 +727,18 @@ public final class EdgeWayTest {
         free.jar(0, 0, 0, 0, 0);
         free.fill(1, 100);
         Edges.due("with two jars both", free.all(0, 1) * 100 + free.all(0, 2), 1);
+        Edges.says("ALL by a LAW: as it is now");
+        free.fill(0, 0);
+        Edges.due("a jar less", free.all(0, 1), 16);
+        Edges.due("a jar less", free.all(0, 2), 1);
+        free.fill(1, 0);
+        Edges.due("no jar", free.all(0, 0), 0);
+        Edges.due("no jar", free.all(0, 2), 16);
+        free.fill(1, 500);
+        free.order(1, 99, 1, 5);
+        Edges.due("by a way", free.all(0, 3), 1);
+        Edges.due("best behind all", free.best(0, 0, 1, 0, 500, 0, 0, 0), 499);
+        Edges.due("serves behind all", free.serves(0, 1, 2), 499);
     }
 
     private static SnowMules feasted(int n) {
@@ -858,6 +935,22 @@ public final class EdgeWayTest {
         Edges.due("drops of four", risk.nights(2, 0, 1000, 4, 1), 2000);
         Edges.due("x is as it was", risk.count(9), 0);
         Edges.asks("nothing else changes", Edges::some, n -> n.nights(2, 0, 1000, 20, 0) > 0 ? 1 : 0, 1);
+        int[][] draws = {{12345, 468, 0, 1, 0}, {12345, 469, 0, 0, 1}, {917, 999, 0, 1, 0}, {917, 1000, 0, 0, 1}, {230538014, 767, 0, 1, 0},
+            {230538014, 768, 0, 0, 1}, {0, 0, 468, 1, 0}, {0, 0, 469, 0, 0}, {727, 0, 0, 1, 0}, {727, 0, 1, 0, 0}, {1123, 0, 999, 1, 0},
+            {1123, 0, 1000, 0, 0}, {1123, 0, 1001, 0, 0}, {0, 1, 1000, 0, 1}};
+        for (int[] d : draws) {
+            Edges.due("from x " + d[0] + ", risk " + d[1] + ", burst " + d[2] + ": come", night(d[0], d[1], d[2], 0), d[3]);
+            Edges.due("from x " + d[0] + ", risk " + d[1] + ", burst " + d[2] + ": stolen", night(d[0], d[1], d[2], 2), d[4]);
+        }
+        SnowMules shared = row(2);
+        Edges.law(shared, "melt 1;share 10;burst 1000 if drops=900 and node=1 and hour=1;rest 9");
+        shared.jar(0, 0, 0, 0, 0);
+        shared.store(1, 50);
+        shared.from(0);
+        shared.lay(0);
+        Edges.due("a burst with the drops behind the share", shared.nights(1, 0, 1000, 1, 0), 0);
+        Edges.due("no burst with others", shared.nights(1, 0, 1002, 1, 1), 901);
+        Edges.due("no store takes the share", shared.at(1, 3), 50);
         Edges.says("NIGHTS: with a JAR's felt, salt and so many DROPS, leaving now");
         SnowMules jar = row(2);
         Edges.law(jar, "chain 0");
@@ -872,6 +965,19 @@ public final class EdgeWayTest {
         Edges.due("of a jar on a pass", jar.nights(2, 0, 5000, 1, 1), 5000 - 981);
         jar.tick(1, 1);
         Edges.due("of a jar that is gone", jar.nights(2, 0, 5000, 1, 1), 5000 - 982);
+    }
+
+    private static int night(int x, int risk, int burst, int what) {
+        SnowMules m = new SnowMules();
+        m.node(0, 0, 0);
+        m.node(0, 0, 0);
+        m.pass(0, 1, 1, 0, risk);
+        m.jar(0, 0, 0, 0, 0);
+        Edges.law(m, "burst " + burst);
+        m.from(0);
+        m.lay(0);
+        m.seed(x);
+        return m.nights(0, 0, 1000, 1, what);
     }
 
     // Promise 33
@@ -899,6 +1005,12 @@ public final class EdgeWayTest {
         Edges.law(hours, "melt 10 if hour>5 or hour<5;melt 1 if sun=1");
         Edges.due("the best hour of both", hours.price(1, 0, 1, 6, 1000, 0), 1);
         Edges.due("a day later is too late for both", hours.price(1, 0, 1, 6, 1000, 1), 0);
+        Edges.says("PRICE of a PASS (felt, salt 0)");
+        SnowMules bare = row(2);
+        bare.pass(0, 1, 2, 0, 0);
+        Edges.law(bare, "melt 100 if felt>0 or salt>0;melt 7");
+        Edges.due("7 and 14", bare.price(1, 0, 1, 0, 1000, 0), 7);
+        Edges.due("7 and 14", bare.price(1, 0, 1, 0, 1000, 1), 0);
         Edges.says("(all of it, if there is no WAY then)");
         Edges.due("all of it", row(2).price(0, 0, 1, 0, 1000, 0), 999);
         Edges.due("all of nothing", row(2).price(0, 0, 1, 0, 0, 0), 0);
