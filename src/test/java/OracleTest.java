@@ -129,7 +129,7 @@ public final class OracleTest {
                 same("fill(" + j + ", " + n + ")", mules.fill(j, n), oracle.fill(j, n));
             }
             for (int i = 2 + random.nextInt(5); i > 0; i--) {
-                int n = random.nextInt(oracle.nodes.size());
+                int n = number(oracle.nodes.size());
                 int until = random.nextInt(80);
                 int drops = 1 + random.nextInt(random.nextBoolean() ? 90000 : 100);
                 int price = random.nextInt(random.nextBoolean() ? 4 : 9999);
